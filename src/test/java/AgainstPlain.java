@@ -308,7 +308,11 @@ public final class AgainstPlain {
     private static final int[] SMALL = {5, 7, 11, 13, 17, 19, 23};
     private static final int[] LARGE = {29, 31, 101, 499, 983, 991, 997};
 
+    /** Of the object at hand; beyond 512 of them the document promises nothing. */
+    private static int calls = 0;
+
     private static void due(int run, String call, long got, long want) {
+        calls++;
         if (got != want) {
             wrong++;
             if (wrong < 30) System.out.println("run " + run + ": " + call + " answered " + got + ", due is " + want);
@@ -381,13 +385,14 @@ public final class AgainstPlain {
     }
 
     public static void main(String[] args) {
-        for (int run = 0; run < 400; run++) {
+        for (int run = 0; run < 500; run++) {
             SealedBox x = new SealedBox();
+            calls = 0;
             Plain m = new Plain();
             int p = run % 2 == 0 ? SMALL[draw(SMALL.length)] : LARGE[draw(LARGE.length)];
             due(run, "field(" + p + ")", x.field(p), m.field(p));
             int rare = 4 + draw(20);
-            for (int call = 0; call < 400; call++) {
+            while (calls < 460) {
                 int which = draw(2 * rare);
                 if (which == 0) rareCall(run, x, m);
                 else if (which <= rare) boxCall(run, x, m);
