@@ -354,7 +354,7 @@ public final class SealedBox {
         }
     }
 
-    /** The kinds of a letter's form, each asking the one that stands over it. */
+    /** The kinds of a letter's form: what SCALED does stands upon SHIFTED, and that upon POWER. */
     private static final class Bases {
         private final PrimeField numbers;
         // Kept as they were set: another field takes them anew, modulo its own p.
@@ -366,18 +366,9 @@ public final class SealedBox {
         }
 
         int letter(int kind, int v, int e) {
-            if (kind == SCALED) {
-                return scaled(v, e);
-            }
-            return kind == SHIFTED ? shifted(v, e) : numbers.power(v, e);
-        }
-
-        private int shifted(int v, int e) {
-            return numbers.power(numbers.plus(v, shift), e);
-        }
-
-        private int scaled(int v, int e) {
-            return numbers.times(scale, shifted(v, e));
+            int moved = kind == POWER ? v : numbers.plus(v, shift);
+            int raised = numbers.power(moved, e);
+            return kind == SCALED ? numbers.times(scale, raised) : raised;
         }
 
         /** What a form of this kind brings to the trace: its own body and all bodies over it. */
