@@ -1,3 +1,5 @@
+import java.util.Arrays;
+
 /**
  * The boundary cases that the document names for what is got back, for zeros and for where boxes meet, by sentence.
  * Where a box FAILS, what makes it fail is looked at too, so that each cause stands alone.
@@ -5,8 +7,8 @@
 public final class GotBackEdges {
     private static final int BAD = Checks.BAD, STATE = Checks.STATE, LEAST = Checks.LEAST, MOST = Checks.MOST;
     private static final Checks CHECKS = new Checks("GotBackEdges");
-    /** In this field no two of all exponents have one number. */
-    private static final int CLEAR_P = 251;
+    /** In these fields no two of all exponents have one number. */
+    private static final int CLEAR_P = 251, GREAT_CLEAR_P = 977;
 
     private static void due(String what, long got, long want) {
         CHECKS.due(what, got, want);
@@ -112,6 +114,41 @@ public final class GotBackEdges {
         dueTerm(y, 0, 1, 2, 0, 1, 0);
         dueTerm(y, 0, 2, 3, 0, 4, 0);
         dueTerm(y, 0, 3, 4, 1, 0, 0);
+    }
+
+    private static void coefficients() {
+        CHECKS.sentence("Coefficients are those by which the KEYS' powers, added, are the first L answers: up to P - 1");
+        for (int p : new int[] {CLEAR_P, GREAT_CLEAR_P}) {
+            for (int round = 0; round < 64; round++) {
+                int n = 1 + round % 4;
+                int[][] all = {{p - 1, 0, 0, 0}, {p - 1 - round, 0, 1, 4}, {1 + 53 * round % (p - 1), 3, 2, 0},
+                    {p - 1 - 31 * round % (p - 1), 4, 4, 4}};
+                SealedBox great = boxOf(p, 1, 0, Arrays.copyOf(all, n));
+                due("how many", great.got(0, 0, 0), n);
+                for (int i = 0; i < n; i++) {
+                    dueTerm(great, 0, i, all[i]);
+                }
+            }
+        }
+        CHECKS.sentence("Coefficients are those by which..: the first L answers are P - 1 each");
+        int[][][] boxes = {
+            {{335, 0, 0, 4}, {815, 0, 2, 1}, {416, 2, 4, 0}, {387, 4, 2, 1}},
+            {{475, 0, 3, 3}, {856, 3, 4, 0}, {951, 4, 0, 4}, {648, 4, 2, 0}},
+            {{515, 1, 3, 3}, {27, 2, 3, 4}, {775, 4, 1, 2}, {636, 4, 4, 4}},
+            {{877, 0, 0, 3}, {781, 0, 4, 4}, {583, 2, 3, 3}, {689, 3, 0, 4}}};
+        for (int[][] box : boxes) {
+            SealedBox most = boxOf(GREAT_CLEAR_P, 1, 0, box);
+            for (int i = 0; i < 4; i++) {
+                int two = Checks.raised(2, i, 977), three = Checks.raised(3, i, 977), five = Checks.raised(5, i, 977);
+                due("answer " + i, most.ask(0, two, three, five), 976);
+            }
+            for (int i = 0; i < 4; i++) {
+                dueTerm(most, 0, i, box[i]);
+            }
+        }
+    }
+
+    private static void eachKeyAlone() {
         CHECKS.sentence("KEYS: each of all exponents is got back alone, in a field where no two have one number");
         for (int abc = 0; abc < 125; abc++) {
             SealedBox one = boxOf(CLEAR_P, 1, 0, new int[] {250, abc / 25, abc / 5 % 5, abc % 5});
@@ -168,9 +205,17 @@ public final class GotBackEdges {
 
     private static void twoOfOneNumber() {
         CHECKS.sentence("it FAILS if two have one number, though there are just L of them");
-        SealedBox a = boxOf(29, 5, 1, new int[] {2, 0, 2, 4});
-        SealedBox b = boxOf(43, 2, 1, new int[] {1, 3, 3, 2});
-        for (SealedBox x : new SealedBox[] {a, b}) {
+        SealedBox[] boxes = {
+            boxOf(29, 5, 1, new int[] {2, 0, 2, 4}),
+            boxOf(43, 2, 1, new int[] {1, 3, 3, 2}),
+            // one pair alone: the first two keys, and so on through all pairs of four
+            boxOf(103, 26, 1, new int[][] {{55, 0, 3, 0}, {52, 4, 0, 0}}),
+            boxOf(103, 1, 1, new int[][] {{26, 2, 0, 0}, {28, 1, 1, 0}}),
+            boxOf(103, 12, 1, new int[][] {{87, 3, 0, 0}, {35, 1, 0, 1}}),
+            boxOf(103, 10, 1, new int[][] {{7, 4, 0, 0}, {81, 3, 0, 0}, {64, 1, 0, 0}, {6, 0, 0, 4}}),
+            boxOf(103, 16, 1, new int[][] {{94, 0, 4, 0}, {1, 1, 0, 1}, {75, 0, 2, 0}}),
+            boxOf(103, 54, 1, new int[][] {{43, 0, 0, 3}, {3, 0, 4, 0}, {91, 1, 0, 1}})};
+        for (SealedBox x : boxes) {
             Shown shown = new Shown(x, x.count(0));
             due("L at most 4", shown.length <= 4 ? 1 : 0, 1);
             due("just L", shown.keys, shown.length);
@@ -393,6 +438,8 @@ public final class GotBackEdges {
 
     public static void main(String[] args) {
         howManyTerms();
+        coefficients();
+        eachKeyAlone();
         noTerms();
         notJustLKeys();
         twoOfOneNumber();

@@ -311,6 +311,19 @@ public final class RowEdges {
         return row;
     }
 
+    /** Numbers of no order, then as the register tells. */
+    private static int[] drawnRow(int[] g, int numbers, int p) {
+        int[] row = new int[numbers];
+        for (int n = 0; n < numbers; n++) {
+            long sum = n < g.length ? 17 * n * n * n + 5 * n + 3 : 0;
+            for (int k = 1; k <= g.length && n >= g.length; k++) {
+                sum += (long) g[k - 1] * row[n - k];
+            }
+            row[n] = (int) (sum % p);
+        }
+        return row;
+    }
+
     // ---- promise 12
 
     private static void farBounds() {
@@ -390,11 +403,13 @@ public final class RowEdges {
     private static void farthestPlaces() {
         CHECKS.sentence("FAR: the n-th number by ITS REGISTER, of each length, as far as 1000000000");
         for (int p : new int[] {5, 101, 997}) {
-            for (int length = 1; length <= 16; length++) {
-                int[] row = rowOf(drawnRegister(length, p), 16, p);
+            for (int round = 1; round <= 32; round++) {
+                int drawn = (round + 1) / 2;
+                int[] row = round % 2 == 0 ? rowOf(drawnRegister(drawn, p), 16, p) : drawnRow(drawnRegister(drawn, p), 16, p);
                 SealedBox x = Checks.withField(p);
                 CHECKS.sayAll(x, row);
-                due("L", x.register(0), length);
+                int length = x.register(0);
+                due("L", length, round % 2 == 0 ? drawn : leastLength(row, p));
                 int[] g = new int[length];
                 for (int k = 1; k <= length; k++) {
                     g[k - 1] = x.register(k);
@@ -478,8 +493,12 @@ public final class RowEdges {
     private static void aLieAtEachPlace() {
         CHECKS.sentence("A LIE: at each place 0 .. 15, for each h 0 .. 7, and mended the ROW is so");
         int p = 31;
-        for (int length = 0; length <= 7; length++) {
+        for (int round = 0; round < 16; round++) {
+            int length = round % 8;
             int[] honest = length == 0 ? new int[16] : rowOf(drawnRegister(length, p), 16, p);
+            if (round > 8) {
+                honest = drawnRow(drawnRegister(length, p), 16, p);
+            }
             for (int place = 0; place < 16; place++) {
                 int[] row = honest.clone();
                 row[place] = (row[place] + 7) % p;
